@@ -251,7 +251,7 @@ public final class SixWhoTurn {
         if (x < 0 || x > 999 || y < 0 || y > 999) {
             return false;
         }
-        (team == 0 ? stance0 : stance1).put(place, x, y);
+        stanceOf(team).put(place, x, y);
         return true;
     }
 
@@ -259,7 +259,7 @@ public final class SixWhoTurn {
         if (!isTeam(team) || !course.on) {
             return NONE;
         }
-        return (team == 0 ? stance0 : stance1).firstBroken(team == course.serving);
+        return stanceOf(team).firstBroken(team == course.serving);
     }
 
     // ---- sheets
@@ -390,6 +390,10 @@ public final class SixWhoTurn {
 
     private Court courtOf(int team) {
         return team == 0 ? court0 : court1;
+    }
+
+    private Stance stanceOf(int team) {
+        return team == 0 ? stance0 : stance1;
     }
 
     private int winRally(int team) {
@@ -959,8 +963,11 @@ public final class SixWhoTurn {
 
         void take(int team, int[] players, int turns) {
             int[] order = team == 0 ? order0 : order1;
-            for (int place = 0; place < PLACES && place < players.length; place++) {
-                order[place] = players[Math.floorMod(place + turns, PLACES)];
+            for (int place = 0; place < PLACES; place++) {
+                int from = Math.floorMod(place + turns, PLACES);
+                if (from < players.length) {
+                    order[place] = players[from];
+                }
             }
         }
 
