@@ -416,7 +416,8 @@ public final class SixWhoTurn {
     private int closeIfWon(int team) {
         Court winner = courtOf(team);
         Court other = courtOf(1 - team);
-        if (!Numbers.wins(winner.points, other.points, target(), numbers.valueOf(CAP))) {
+        int target = numbers.target(winner.setsWon, other.setsWon);
+        if (!Numbers.wins(winner.points, other.points, target, numbers.valueOf(CAP))) {
             return 0;
         }
         winner.setsWon++;
@@ -427,13 +428,6 @@ public final class SixWhoTurn {
         }
         course.matchWinner = team;
         return 2;
-    }
-
-    /** Points of the set that is on, or, between two sets, of the next one. */
-    private int target() {
-        int lacking = numbers.valueOf(SETS) - 1;
-        boolean bothCanWin = lacking > 0 && court0.setsWon == lacking && court1.setsWon == lacking;
-        return numbers.valueOf(bothCanWin ? LAST : GOAL);
     }
 
     private int doItems(int signs) {
@@ -495,7 +489,8 @@ public final class SixWhoTurn {
 
     private int chanceFrom(int first, int points0, int points1) {
         chances.fillPhases(squad0, squad1, first);
-        return chances.setChance(points0, points1, target(), numbers.valueOf(CAP));
+        int target = numbers.target(court0.setsWon, court1.setsWon);
+        return chances.setChance(points0, points1, target, numbers.valueOf(CAP));
     }
 
     private int chanceAfter(int team, int out, int in) {
@@ -543,6 +538,13 @@ public final class SixWhoTurn {
             if (what >= 0 && what < values.length) {
                 values[what] = v;
             }
+        }
+
+        /** Points of the set that is on, or, between two sets, of the next one. */
+        int target(int setsOfOne, int setsOfOther) {
+            int lacking = values[SETS] - 1;
+            boolean bothCanWin = lacking > 0 && setsOfOne == lacking && setsOfOther == lacking;
+            return bothCanWin ? values[LAST] : values[GOAL];
         }
 
         static boolean wins(int own, int others, int target, int cap) {
