@@ -3,7 +3,7 @@ import java.util.Random;
 /** Long runs of calls, the same at each start, answered by SixWhoTurn and by PlainMatch side by side. */
 public final class RandomRunsTest {
     private static final int RUNS = 600;
-    private static final int CALLS = 430;
+    private static final int CALLS = 400;
     private static final String PLAYERS = "0123456789xy";
 
     private final Random random;

@@ -38,6 +38,15 @@ public final class SheetEdgesTest {
         Check.due("sheet \"" + text + "\"", Check.sheet(x, text), want);
     }
 
+    /** A text that is refused, of a new object, so that none has more than 512 calls. */
+    private static void refused(String text, int want) {
+        SixWhoTurn x = begun();
+        due(x, text, want);
+        Check.due("RALLIES", x.count(3), 0);
+        Check.due("CHANGES", x.of(0, 2) + x.of(1, 2), 0);
+        Check.due("PAUSES", x.of(0, 3) + x.of(1, 3), 0);
+    }
+
     // ---- promise 19
 
     /** "Refused: there would be more than 100": from every length. */
@@ -217,13 +226,11 @@ public final class SheetEdgesTest {
 
     /** "its end, if it ends too early" */
     private static void endsTooEarly() {
-        SixWhoTurn x = begun();
         for (String part : new String[] {"a", "b", "a*", "b*", "a0", "by"}) {
             for (int n = 0; n + part.length() <= 80; n++) {
-                due(x, "A".repeat(n) + part, -1 - n - part.length());
+                refused("A".repeat(n) + part, -1 - n - part.length());
             }
         }
-        Check.due("nothing was done", x.count(3), 0);
     }
 
     /** "texts of at most 80 signs": 80 of them taken, all twelve CHANGES of both and eight RALLIES. */
@@ -247,62 +254,55 @@ public final class SheetEdgesTest {
 
     /** "80, if it has more and the first 80 can be read whole": whatever the rest is. */
     private static void beyondEighty() {
-        SixWhoTurn x = begun();
         String eighty = "AB".repeat(25) + "a!b-a*3".repeat(4) + "b!";
         Check.due("signs", eighty.length(), 80);
-        due(x, eighty, -1001 - 52);
+        refused(eighty, -1001 - 52);
         for (int n = 81; n <= 100; n++) {
-            due(x, eighty + "A".repeat(n - 80), -81);
-            due(x, eighty + "?".repeat(n - 80), -81);
-            due(x, eighty + "\u0000".repeat(n - 80), -81);
+            refused(eighty + "A".repeat(n - 80), -81);
+            refused(eighty + "?".repeat(n - 80), -81);
+            refused(eighty + "\u0000".repeat(n - 80), -81);
         }
-        Check.due("nothing was done", x.count(3), 0);
     }
 
     /** "or end in an ITEM": an ITEM that begins ahead of the 80th sign and is not over there. */
     private static void itemAcrossTheEightieth() {
-        SixWhoTurn x = begun();
         for (String rest : new String[] {"a!", "a-", "a1", "a*", "a?", "a12", "a*1", "a??", "aA", "b!A"}) {
-            due(x, "A".repeat(79) + rest, -81);
+            refused("A".repeat(79) + rest, -81);
         }
         for (String rest : new String[] {"a12", "a*1", "a1?", "a*?", "bxA", "b*aAAAAA"}) {
-            due(x, "A".repeat(78) + rest, -81);
+            refused("A".repeat(78) + rest, -81);
         }
         // The text ends there: its end is the 80th too.
-        due(x, "A".repeat(79) + "a", -81);
-        due(x, "A".repeat(78) + "a1", -81);
-        due(x, "A".repeat(78) + "b*", -81);
+        refused("A".repeat(79) + "a", -81);
+        refused("A".repeat(78) + "a1", -81);
+        refused("A".repeat(78) + "b*", -81);
     }
 
     private static void firstFaultAheadOfEighty() {
-        SixWhoTurn x = begun();
         for (int p = 0; p < 80; p++) {
-            due(x, "A".repeat(p) + "?" + "A".repeat(99 - p), -1 - p);
-            due(x, "B".repeat(p) + "C" + "?".repeat(80 - p), -1 - p);
+            refused("A".repeat(p) + "?" + "A".repeat(99 - p), -1 - p);
+            refused("B".repeat(p) + "C" + "?".repeat(80 - p), -1 - p);
         }
         for (int p = 0; p < 79; p++) {
-            due(x, "A".repeat(p) + "a?" + "A".repeat(98 - p), -2 - p);
+            refused("A".repeat(p) + "a?" + "A".repeat(98 - p), -2 - p);
         }
         for (int p = 0; p < 78; p++) {
-            due(x, "A".repeat(p) + "a1?" + "A".repeat(97 - p), -3 - p);
-            due(x, "A".repeat(p) + "b*!" + "A".repeat(97 - p), -3 - p);
+            refused("A".repeat(p) + "a1?" + "A".repeat(97 - p), -3 - p);
+            refused("A".repeat(p) + "b*!" + "A".repeat(97 - p), -3 - p);
         }
-        due(x, "A".repeat(80) + "?", -81);
-        Check.due("nothing was done", x.count(3), 0);
+        refused("A".repeat(80) + "?", -81);
     }
 
     /** "refused (of what can be read as a whole ...)": a sign that can't stand comes first, wherever it is. */
     private static void signFaultsAheadOfRefusedItems() {
-        SixWhoTurn x = begun();
-        due(x, "a-", -1001);
-        due(x, "a-A?", -4);
-        due(x, "a-Aa", -5);
-        due(x, "a-Aa*", -6);
-        due(x, "a00?", -4);
-        due(x, "AAAAAA?", -7);
-        due(x, "a-" + "A".repeat(78), -1001);
-        due(x, "a-" + "A".repeat(79), -81);
-        Check.due("nothing was done", x.count(3), 0);
+        refused("a-", -1001);
+        refused("a-A?", -4);
+        refused("a-Aa", -5);
+        refused("a-Aa*", -6);
+        refused("a00?", -4);
+        refused("AAAAAA?", -7);
+        refused("a-" + "A".repeat(78), -1001);
+        refused("a-" + "A".repeat(79), -81);
     }
 
     /** "the ITEM that begins at p is refused": each kind, first, and behind others. */

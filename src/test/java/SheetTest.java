@@ -104,10 +104,10 @@ public final class SheetTest {
     }
 
     private static void faultsOfSigns() {
-        SixWhoTurn x = begun();
         String wrong = "Ccz0xy!*- \u0000\u0080\u00c1\u00e1\u00ff@`";
         for (int k = 0; k < wrong.length(); k++) {
             char c = wrong.charAt(k);
+            SixWhoTurn x = begun();
             due(x, "" + c, -1);
             due(x, "A" + c, -2);
             due(x, "a!" + c, -3);
@@ -115,12 +115,14 @@ public final class SheetTest {
         String noKind = "ABabzXY+/: \u0000\u00b0\u00ff";
         for (int k = 0; k < noKind.length(); k++) {
             char c = noKind.charAt(k);
+            SixWhoTurn x = begun();
             due(x, "a" + c, -2);
             due(x, "Ab" + c + "1", -3);
             due(x, "a1" + c, -3);
             due(x, "a*" + c, -3);
             due(x, "AAb*" + c, -5);
         }
+        SixWhoTurn x = begun();
         due(x, "a1!", -3);
         due(x, "a1*", -3);
         due(x, "a1-", -3);
