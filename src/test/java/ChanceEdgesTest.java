@@ -254,18 +254,24 @@ public final class ChanceEdgesTest {
     private static void chancesOfTheLastSet() {
         for (int[] n : new int[][] {{6, 9, 5}, {5, 9, 8}, {5, 6, 20}}) {
             for (int sets = 2; sets <= 3; sets++) {
-                SixWhoTurn x = match(n[0], n[1], n[2]);
-                x.set(3, sets);
-                unlike(x, 40 + n[2]);
-                for (int set = 0; set < 2 * sets - 2; set++) {
-                    Check.start(x, 0, set);
-                    new Table(x, n[0], n[1]).look("SET " + set, x);
-                    Check.rallies(x, (set % 2 == 0 ? "A" : "B").repeat(n[0]), 1);
+                for (int looked = 0; looked < 2 * sets - 1; looked++) {
+                    lookAtSet(n, sets, looked);
                 }
-                Check.start(x, 1, 2 * sets - 2);
-                playAll(x, "ABBAA", new Table(x, n[2], n[1]), 1);
             }
         }
+    }
+
+    private static void lookAtSet(int[] n, int sets, int looked) {
+        SixWhoTurn x = match(n[0], n[1], n[2]);
+        x.set(3, sets);
+        unlike(x, 40 + n[2] + looked);
+        for (int set = 0; set < looked; set++) {
+            Check.start(x, 0, set);
+            Check.rallies(x, (set % 2 == 0 ? "A" : "B").repeat(n[0]), 1);
+        }
+        Check.start(x, looked % 2, looked);
+        boolean last = looked == 2 * sets - 2;
+        playAll(x, "ABBAA", new Table(x, last ? n[2] : n[0], n[1]), 1);
     }
 
     /** "1000000000 or 0, if it is over": one RALLY ahead of the end for both. */

@@ -11,6 +11,7 @@ public final class FeetEdgesTest {
         placesFromNoughtToFive();
         feetByState();
         aRefusedFootStays();
+        eachTeamHasItsOwnFeet();
         firstFeetWithEachSet();
         everyRuleAtTheEnds();
         allRulesBroken();
@@ -85,6 +86,19 @@ public final class FeetEdgesTest {
         Check.due("x moved", x.overlap(1), 3);
         Check.due("taken", x.feet(1, 2, 500, 900), true);
         Check.due("x and y moved", x.overlap(1), 1);
+    }
+
+    /** "of each PLACE", "of its own TEAM": the feet of one leave those of the other. */
+    private static void eachTeamHasItsOwnFeet() {
+        for (int team = 0; team < 2; team++) {
+            SixWhoTurn x = begun(team);
+            Check.due("crossed", x.feet(team, 2, 100, 200), true);
+            Check.due("of this one", x.overlap(team), 3);
+            Check.due("of the other", x.overlap(1 - team), -2);
+            Check.due("crossed otherwise", x.feet(1 - team, 4, 600, 800), true);
+            Check.due("of this one", x.overlap(team), 3);
+            Check.due("of the other", x.overlap(1 - team), 5);
+        }
     }
 
     /** "at first (and with each SET)": all feet moved in the first SET, each number of the second is at its edge. */
