@@ -42,6 +42,7 @@ public final class FaceTest {
                 continue;
             }
             Check.due(m + " is public alone", m.getModifiers(), Modifier.PUBLIC);
+            Check.due(m + " says what it throws", m.getExceptionTypes().length, m.getName().equals("row") ? 1 : 0);
             StringBuilder types = new StringBuilder();
             for (Class<?> type : m.getParameterTypes()) {
                 types.append(types.length() == 0 ? "" : ",").append(type.getName());
